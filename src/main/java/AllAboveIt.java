@@ -15,6 +15,7 @@ public final class AllAboveIt {
     private static final int KEEPS_IT_NOT = -3;
     private static final int MOST_THINGS = 14;
     private static final int MOST_BACK = 2;
+    /** MOVES as the document numbers them: those from 14 on put a THING back. */
     private static final int ALL_MOVES = 2 * MOST_THINGS;
     /** Who may take all, as VALUE wants it: a fourth one beside the three HEIRS. */
     private static final int ANYBODY = 3;
@@ -111,6 +112,7 @@ public final class AllAboveIt {
         for (int i = 0; i < pile.things(); i++) {
             pile.setWorth(i, i < entries ? entry(kind, f + i * step) : 0);
         }
+        pile.addUp();
         worths.forget();
         return kind == 3 ? MISSING : pile.worthOf(pile.full());
     }
@@ -123,14 +125,15 @@ public final class AllAboveIt {
     // ---- a game
 
     public int may(int heir) {
-        return heir < 0 || heir > 2 ? NONE : pile.moves(game.state(), heir);
+        return heir < 0 || heir > 2 ? NONE : pile.named(pile.moves(game.state(), heir));
     }
 
     public int move(int move) {
         if (move < 0 || move >= ALL_MOVES || !pile.has(move % MOST_THINGS)) {
             return NONE;
         }
-        return (pile.moves(game.state(), game.turn()) >> move & 1) == 0 ? CANNOT : game.go(move);
+        int step = pile.step(move);
+        return pile.can(game.state(), game.turn(), step) ? game.go(step) : CANNOT;
     }
 
     public int undo() {
@@ -150,11 +153,11 @@ public final class AllAboveIt {
         tell(0, 0);
         int state = pile.first();
         for (int k = 0; k < n; k++) {
-            int move = (k < 5 ? a : k < 10 ? b : c) >>> 6 * (k % 5) & 63;
-            if (move >= ALL_MOVES || (pile.moves(state, k & 1) >> move & 1) == 0) {
+            int step = pile.step((k < 5 ? a : k < 10 ? b : c) >>> 6 * (k % 5) & 63);
+            if (!pile.can(state, k & 1, step)) {
                 return k;
             }
-            int behind = pile.behind(state, move);
+            int behind = pile.behind(state, step);
             numbers[k & 1] += pile.worthOf(state & ~behind);
             state = behind;
         }
@@ -172,7 +175,7 @@ public final class AllAboveIt {
 
     public int wins() {
         int heir = game.turn();
-        tell(winners.winningMoves(game.state(), heir, game.ending()));
+        tell(pile.named(winners.winningSteps(game.state(), heir, game.ending())));
         return winner(heir, game.ending());
     }
 
@@ -189,7 +192,7 @@ public final class AllAboveIt {
     }
 
     public int soon() {
-        tell(winners.firstSoonest(game.state(), game.turn(), game.ending()));
+        tell(pile.moveOf(winners.firstSoonest(game.state(), game.turn(), game.ending())));
         return winners.soonest(game.state(), game.turn(), game.ending());
     }
 
@@ -220,10 +223,10 @@ public final class AllAboveIt {
             if (Integer.bitCount(moves) != 1) {
                 break;
             }
-            int move = Pile.lowest(moves);
-            numbers[k] = move;
+            int step = Pile.lowest(moves);
+            numbers[k] = pile.moveOf(step);
             told = k + 1;
-            state = pile.behind(state, move);
+            state = pile.behind(state, step);
             heir = 1 - heir;
         }
         return told;
@@ -275,7 +278,11 @@ public final class AllAboveIt {
     }
 
     public int make(int v) {
-        return v < 0 || v > 31 ? NONE : heaping.firstTo(game.state(), v);
+        if (v < 0 || v > 31) {
+            return NONE;
+        }
+        int step = heaping.firstTo(game.state(), v);
+        return step == NONE ? CANNOT : pile.moveOf(step);
     }
 
     public int joined() {
@@ -312,7 +319,7 @@ public final class AllAboveIt {
     // ---- worths
 
     public int best() {
-        tell(worths.firstBest(game.state(), game.turn()));
+        tell(pile.moveOf(worths.firstBest(game.state(), game.turn())));
         return worths.more(game.state(), game.turn());
     }
 
@@ -328,11 +335,11 @@ public final class AllAboveIt {
         int moves = 0;
         tell(0, 0);
         for (int k = 0; k < MOST_MOVES; k++) {
-            int move = worths.greediest(state, game.turn() + k & 1);
-            if (move == NONE) {
+            int step = worths.greediest(state, game.turn() + k & 1);
+            if (step == NONE) {
                 break;
             }
-            int behind = pile.behind(state, move);
+            int behind = pile.behind(state, step);
             numbers[k & 1] += pile.worthOf(state & ~behind);
             state = behind;
             moves++;
@@ -375,8 +382,7 @@ public final class AllAboveIt {
         if (heir < 0 || heir > 2) {
             return NONE;
         }
-        int move = keepers.firstMove(game.state(), heir);
-        tell(move);
+        tell(pile.moveOf(keepers.firstStep(game.state(), heir)));
         return keepers.keeper(game.state(), heir);
     }
 
@@ -704,9 +710,14 @@ public final class AllAboveIt {
 
     /**
      * The THINGS, and how MOVES change a STATE. A STATE is one number: the THINGS THERE in its lowest
-     * bits, and ahead of them a bit for each of BACK, set if it was put back: so it can be the index of a row.
+     * bits, and ahead of them a bit for each of BACK, set if it was put back: so it can be the index of a
+     * row. MOVES are STEPS here: the bit of a STATE that a MOVE is about, in the same order as MOVES.
      */
     private static final class Pile {
+        private static final int MOST_STEPS = MOST_THINGS + MOST_BACK;
+        /** WORTHS are added up ahead of time for the lower and the upper half of the THINGS. */
+        private static final int HALF = MOST_THINGS / 2;
+
         private final int[] worth = new int[MOST_THINGS];
         private final int[] heirs = new int[MOST_THINGS];
         private final int[] under = new int[MOST_THINGS];
@@ -714,9 +725,14 @@ public final class AllAboveIt {
         private final int[] touching = new int[MOST_THINGS];
         private final int[] back = new int[MOST_BACK];
         private final int[] allowed = new int[ANYBODY + 1];
-        // what a MOVE takes out of a STATE, what it puts into it
-        private final int[] clears = new int[ALL_MOVES];
-        private final int[] sets = new int[ALL_MOVES];
+        // what a STEP takes out of a STATE, what it puts into it
+        private final int[] clears = new int[MOST_STEPS];
+        private final int[] sets = new int[MOST_STEPS];
+        private final int[] lowerSums = new int[1 << HALF];
+        private final int[] upperSums = new int[1 << HALF];
+        // HEAPS when all are THERE, with the bits of those of BACK in them
+        private final int[] wholeHeaps = new int[MOST_THINGS];
+        private int heapsInAll = 0;
         private int things = 0;
         private int backs = 0;
         private int version = 0;
@@ -756,15 +772,52 @@ public final class AllAboveIt {
             things++;
         }
 
-        /** Behind the last of some THINGS told: what MOVES do depends on how many there are. */
+        /** Behind the last of some THINGS told: what STEPS do depends on how many there are. */
         void settle() {
             version++;
             for (int i = 0; i < things; i++) {
                 clears[i] = above[i] | 1 << i;
+                sets[i] = 0;
             }
             for (int k = 0; k < backs; k++) {
-                sets[MOST_THINGS + back[k]] = 1 << back[k] | 1 << things + k;
+                clears[things + k] = 0;
+                sets[things + k] = 1 << back[k] | 1 << things + k;
             }
+            splitHeaps();
+            addUp();
+        }
+
+        private void splitHeaps() {
+            int left = full();
+            heapsInAll = 0;
+            for (int i = 0; i < things; i++) {
+                if ((left >> i & 1) != 0) {
+                    int heap = heapOf(i, left);
+                    left &= ~heap;
+                    for (int k = 0; k < backs; k++) {
+                        heap |= (heap >> back[k] & 1) << things + k;
+                    }
+                    wholeHeaps[heapsInAll] = heap;
+                    heapsInAll++;
+                }
+            }
+        }
+
+        /** Behind other WORTHS: the sums of all parts of each half. */
+        void addUp() {
+            for (int i = 0; i < HALF; i++) {
+                int bit = 1 << i;
+                for (int part = 0; part < bit; part++) {
+                    lowerSums[part | bit] = lowerSums[part] + worth[i];
+                    upperSums[part | bit] = upperSums[part] + worth[HALF + i];
+                }
+            }
+        }
+
+        int worthOf(int some) {
+            int all = some & full();
+            int mask = (1 << HALF) - 1;
+            return lowerSums[all & mask] + upperSums[all >> HALF & mask];
         }
 
         /** Another one whenever THINGS were told. */
@@ -820,9 +873,23 @@ public final class AllAboveIt {
             return full();
         }
 
+        private int allPutBack() {
+            return (1 << backs) - 1 << things;
+        }
+
         /** The STATE when just these are THERE and nothing can be put back. */
         int justThese(int some) {
-            return some & full() | (1 << backs) - 1 << things;
+            return some & full() | allPutBack();
+        }
+
+        int heapsInAll() {
+            return heapsInAll;
+        }
+
+        /** A STATE as it is in one HEAP of the whole pile, the others gone for ever. */
+        int inHeap(int state, int h) {
+            int heap = h >= 0 && h < heapsInAll ? wholeHeaps[h] : 0;
+            return state & heap | allPutBack() & ~heap;
         }
 
         /** How many numbers a STATE can be. */
@@ -843,36 +910,56 @@ public final class AllAboveIt {
             return heir >= 0 && heir <= ANYBODY ? state & allowed[heir] : 0;
         }
 
+        /** The STEPS of an HEIR, as bits. */
         int moves(int state, int heir) {
-            int takes = takes(state, heir);
-            return backs == 0 ? takes : takes | puts(state);
-        }
-
-        private int puts(int state) {
-            int bits = 0;
+            int bits = takes(state, heir);
             for (int k = 0; k < backs; k++) {
-                int i = back[k];
-                if ((state & sets[MOST_THINGS + i]) == 0 && (under[i] & ~state) == 0) {
-                    bits |= 1 << MOST_THINGS + i;
+                if ((state & sets[things + k]) == 0 && (under[back[k]] & ~state) == 0) {
+                    bits |= 1 << things + k;
                 }
             }
             return bits;
         }
 
-        /** The STATE behind a MOVE. */
-        int behind(int state, int move) {
-            return move >= 0 && move < ALL_MOVES ? state & ~clears[move] | sets[move] : state;
+        /** STEPS are numbered 0 .. and there are as many. */
+        int steps() {
+            return things + backs;
         }
 
-        int worthOf(int some) {
-            int sum = 0;
-            int left = some & full();
-            int many = Integer.bitCount(left);
-            for (int k = 0; k < many; k++) {
-                sum += worthAt(lowest(left));
-                left &= left - 1;
+        boolean can(int state, int heir, int step) {
+            return step >= 0 && step < steps() && (moves(state, heir) >> step & 1) != 0;
+        }
+
+        /** The STATE behind a STEP. */
+        int behind(int state, int step) {
+            return step >= 0 && step < MOST_STEPS ? state & ~clears[step] | sets[step] : state;
+        }
+
+        /** The STEP that a MOVE of the document is; NONE, if it never can be made. */
+        int step(int move) {
+            if (has(move)) {
+                return move;
             }
-            return sum;
+            for (int k = 0; k < backs; k++) {
+                if (move == MOST_THINGS + back[k]) {
+                    return things + k;
+                }
+            }
+            return NONE;
+        }
+
+        /** The MOVE of the document that a STEP is; NONE for NONE. */
+        int moveOf(int step) {
+            return step >= things && step < steps() ? MOST_THINGS + back[step - things] : step;
+        }
+
+        /** The MOVES of the document that some STEPS are, as bits. */
+        int named(int steps) {
+            int bits = steps & full();
+            for (int k = 0; k < backs; k++) {
+                bits |= (steps >> things + k & 1) << MOST_THINGS + back[k];
+            }
+            return bits;
         }
 
         /** Of some THINGS: those that are not ABOVE another one of them. */
@@ -957,15 +1044,15 @@ public final class AllAboveIt {
             ending = v;
         }
 
-        /** A MOVE that can be made: the THINGS that are gone by it. */
-        int go(int move) {
+        /** A STEP that can be made: the THINGS that are gone by it. */
+        int go(int step) {
             if (made >= before.length) {
                 return CANNOT;
             }
             int was = state;
             before[made] = was;
             made++;
-            state = pile.behind(was, move);
+            state = pile.behind(was, step);
             return was & ~state;
         }
 
@@ -1051,23 +1138,23 @@ public final class AllAboveIt {
                 return was == WON;
             }
             int moves = pile.moves(state, heir);
-            int many = Integer.bitCount(moves);
-            boolean wins = many == 0 && end == 1;
-            for (int k = 0; k < many && !wins; k++) {
-                int behind = pile.behind(state, Pile.lowest(moves));
-                moves &= moves - 1;
-                wins = !victoryFrom(behind, 1 - heir, end, depth + 1);
+            int steps = pile.steps();
+            boolean wins = moves == 0 && end == 1;
+            for (int step = 0; step < steps && !wins; step++) {
+                if ((moves >> step & 1) != 0) {
+                    wins = !victoryFrom(pile.behind(state, step), 1 - heir, end, depth + 1);
+                }
             }
             known.set(state, known.at(state) | (long) (wins ? WON : LOST) << shift);
             return wins;
         }
 
-        int winningMoves(int state, int heir, int end) {
+        int winningSteps(int state, int heir, int end) {
             int moves = pile.moves(state, heir);
             int winning = 0;
-            for (int move = 0; move < ALL_MOVES; move++) {
-                if ((moves >> move & 1) != 0 && !victory(pile.behind(state, move), 1 - heir, end)) {
-                    winning |= 1 << move;
+            for (int step = 0; step < pile.steps(); step++) {
+                if ((moves >> step & 1) != 0 && !victory(pile.behind(state, step), 1 - heir, end)) {
+                    winning |= 1 << step;
                 }
             }
             return winning;
@@ -1086,11 +1173,13 @@ public final class AllAboveIt {
             }
             boolean wins = victoryFrom(state, heir, end, depth);
             int moves = pile.moves(state, heir);
-            int many = Integer.bitCount(moves);
-            int soonest = many == 0 ? 0 : NONE;
-            for (int k = 0; k < many; k++) {
-                int behind = pile.behind(state, Pile.lowest(moves));
-                moves &= moves - 1;
+            int steps = pile.steps();
+            int soonest = moves == 0 ? 0 : NONE;
+            for (int step = 0; step < steps; step++) {
+                if ((moves >> step & 1) == 0) {
+                    continue;
+                }
+                int behind = pile.behind(state, step);
                 if (wins && victoryFrom(behind, 1 - heir, end, depth + 1)) {
                     continue;
                 }
@@ -1107,13 +1196,13 @@ public final class AllAboveIt {
             int soonest = soonest(state, heir, end);
             boolean wins = victory(state, heir, end);
             int moves = pile.moves(state, heir);
-            for (int move = 0; move < ALL_MOVES; move++) {
-                if ((moves >> move & 1) == 0) {
+            for (int step = 0; step < pile.steps(); step++) {
+                if ((moves >> step & 1) == 0) {
                     continue;
                 }
-                int behind = pile.behind(state, move);
+                int behind = pile.behind(state, step);
                 if (victory(behind, 1 - heir, end) != wins && 1 + soonest(behind, 1 - heir, end) == soonest) {
-                    return move;
+                    return step;
                 }
             }
             return NONE;
@@ -1147,10 +1236,11 @@ public final class AllAboveIt {
                 lost++;
             }
             int moves = pile.moves(state, heir);
-            int many = Integer.bitCount(moves);
-            for (int k = 0; k < many; k++) {
-                visit(pile.behind(state, Pile.lowest(moves)), 1 - heir, end, depth + 1);
-                moves &= moves - 1;
+            int steps = pile.steps();
+            for (int step = 0; step < steps; step++) {
+                if ((moves >> step & 1) != 0) {
+                    visit(pile.behind(state, step), 1 - heir, end, depth + 1);
+                }
             }
         }
 
@@ -1160,14 +1250,15 @@ public final class AllAboveIt {
                 return 1;
             }
             int moves = pile.moves(state, heir);
-            int many = Integer.bitCount(moves);
             if (n == 1) {
-                return many;
+                return Integer.bitCount(moves);
             }
+            int steps = pile.steps();
             long sum = 0;
-            for (int k = 0; k < many; k++) {
-                sum += games(pile.behind(state, Pile.lowest(moves)), 1 - heir, n - 1);
-                moves &= moves - 1;
+            for (int step = 0; step < steps; step++) {
+                if ((moves >> step & 1) != 0) {
+                    sum += games(pile.behind(state, step), 1 - heir, n - 1);
+                }
             }
             return sum;
         }
@@ -1189,9 +1280,14 @@ public final class AllAboveIt {
             this.pile = pile;
         }
 
+        /** HEAPS side by side: the VALUES of all joined, so that each is looked at by itself. */
         int valueOf(int state) {
             values.fit(pile);
-            return valueFrom(state, 0);
+            int joined = 0;
+            for (int h = 0; h < pile.heapsInAll(); h++) {
+                joined ^= valueFrom(pile.inHeap(state, h), 0);
+            }
+            return joined;
         }
 
         private int valueFrom(int state, int depth) {
@@ -1199,36 +1295,40 @@ public final class AllAboveIt {
             if (was != 0 || depth > DEEPEST) {
                 return (int) was - 1;
             }
-            int value = Pile.lowest(~valuesFrom(state, depth));
+            int moves = pile.moves(state, ANYBODY);
+            int steps = pile.steps();
+            int bits = 0;
+            for (int step = 0; step < steps; step++) {
+                if ((moves >> step & 1) != 0) {
+                    bits |= 1 << valueFrom(pile.behind(state, step), depth + 1);
+                }
+            }
+            int value = Pile.lowest(~bits);
             values.set(state, value + 1);
             return value;
         }
 
-        private int valuesFrom(int state, int depth) {
+        /** VALUES to which MOVES lead, as bits. */
+        int valuesBehind(int state) {
             int moves = pile.moves(state, ANYBODY);
-            int many = Integer.bitCount(moves);
             int bits = 0;
-            for (int k = 0; k < many; k++) {
-                bits |= 1 << valueFrom(pile.behind(state, Pile.lowest(moves)), depth + 1);
-                moves &= moves - 1;
+            for (int step = 0; step < pile.steps(); step++) {
+                if ((moves >> step & 1) != 0) {
+                    bits |= 1 << valueOf(pile.behind(state, step));
+                }
             }
             return bits;
         }
 
-        /** VALUES to which MOVES lead, as bits. */
-        int valuesBehind(int state) {
-            values.fit(pile);
-            return valuesFrom(state, 0);
-        }
-
+        /** The first STEP by which VALUE becomes v. */
         int firstTo(int state, int v) {
             int moves = pile.moves(state, ANYBODY);
-            for (int move = 0; move < ALL_MOVES; move++) {
-                if ((moves >> move & 1) != 0 && valueOf(pile.behind(state, move)) == v) {
-                    return move;
+            for (int step = 0; step < pile.steps(); step++) {
+                if ((moves >> step & 1) != 0 && valueOf(pile.behind(state, step)) == v) {
+                    return step;
                 }
             }
-            return CANNOT;
+            return NONE;
         }
 
         /** THINGS lie on ones told ahead of them: from the last on, each finds all on it joined already. */
@@ -1403,43 +1503,44 @@ public final class AllAboveIt {
                 return was - ZERO;
             }
             int moves = pile.moves(state, heir);
-            int many = Integer.bitCount(moves);
-            int most = many == 0 ? 0 : -ZERO;
-            for (int k = 0; k < many; k++) {
-                most = Math.max(most, moreBy(state, heir, Pile.lowest(moves), depth));
-                moves &= moves - 1;
+            int steps = pile.steps();
+            int most = moves == 0 ? 0 : -ZERO;
+            for (int step = 0; step < steps; step++) {
+                if ((moves >> step & 1) != 0) {
+                    most = Math.max(most, moreBy(state, heir, step, depth));
+                }
             }
             known.set(state, cell(state) | (long) (most + ZERO) << 16 * heir);
             return most;
         }
 
-        private int moreBy(int state, int heir, int move, int depth) {
-            int behind = pile.behind(state, move);
+        private int moreBy(int state, int heir, int step, int depth) {
+            int behind = pile.behind(state, step);
             return pile.worthOf(state & ~behind) - moreFrom(behind, 1 - heir, depth + 1);
         }
 
         int firstBest(int state, int heir) {
             int most = more(state, heir);
             int moves = pile.moves(state, heir);
-            for (int move = 0; move < ALL_MOVES; move++) {
-                if ((moves >> move & 1) != 0 && moreBy(state, heir, move, 0) == most) {
-                    return move;
+            for (int step = 0; step < pile.steps(); step++) {
+                if ((moves >> step & 1) != 0 && moreBy(state, heir, step, 0) == most) {
+                    return step;
                 }
             }
             return NONE;
         }
 
-        /** The first MOVE that takes what is worth the most. */
+        /** The first STEP that takes what is worth the most. */
         int greediest(int state, int heir) {
             int takes = pile.takes(state, heir);
             int most = NONE;
             int first = NONE;
-            for (int move = 0; move < MOST_THINGS; move++) {
-                if ((takes >> move & 1) != 0) {
-                    int gain = pile.worthOf(state & ~pile.behind(state, move));
+            for (int step = 0; step < pile.things(); step++) {
+                if ((takes >> step & 1) != 0) {
+                    int gain = pile.worthOf(state & ~pile.behind(state, step));
                     if (gain > most) {
                         most = gain;
-                        first = move;
+                        first = step;
                     }
                 }
             }
@@ -1599,6 +1700,7 @@ public final class AllAboveIt {
     /** Three HEIRS, none of whom wants the parrot. */
     private static final class Parrots {
         private static final int NOBODY = 3;
+        private static final int BEST = 2;
         private static final int PAIRS = 48;
 
         private final Pile pile;
@@ -1625,7 +1727,7 @@ public final class AllAboveIt {
             if (keeper == heir) {
                 return 0;
             }
-            return (keeper == next(heir)) == ((liking >> heir & 1) == 0) ? 2 : 1;
+            return (keeper == next(heir)) == ((liking >> heir & 1) == 0) ? BEST : 1;
         }
 
         int keeper(int state, int heir) {
@@ -1641,25 +1743,28 @@ public final class AllAboveIt {
                 return was - 1;
             }
             int moves = pile.moves(state, heir);
-            int many = Integer.bitCount(moves);
-            int keeper = many == 0 ? next(next(heir)) : heir;
-            for (int k = 0; k < many && liked(heir, keeper) < 2; k++) {
-                int other = keeperFrom(pile.behind(state, Pile.lowest(moves)), next(heir), depth + 1);
-                moves &= moves - 1;
-                if (liked(heir, other) > liked(heir, keeper)) {
-                    keeper = other;
+            int steps = pile.steps();
+            int keeper = moves == 0 ? next(next(heir)) : heir;
+            int best = 0;
+            for (int step = 0; step < steps && best < BEST; step++) {
+                if ((moves >> step & 1) != 0) {
+                    int other = keeperFrom(pile.behind(state, step), next(heir), depth + 1);
+                    if (liked(heir, other) > best) {
+                        best = liked(heir, other);
+                        keeper = other;
+                    }
                 }
             }
             known.set(state, known.at(state) | (long) (keeper + 1) << shift);
             return keeper;
         }
 
-        int firstMove(int state, int heir) {
+        int firstStep(int state, int heir) {
             int keeper = keeper(state, heir);
             int moves = pile.moves(state, heir);
-            for (int move = 0; move < ALL_MOVES; move++) {
-                if ((moves >> move & 1) != 0 && keeperFrom(pile.behind(state, move), next(heir), 0) == keeper) {
-                    return move;
+            for (int step = 0; step < pile.steps(); step++) {
+                if ((moves >> step & 1) != 0 && keeperFrom(pile.behind(state, step), next(heir), 0) == keeper) {
+                    return step;
                 }
             }
             return NONE;
@@ -1684,11 +1789,12 @@ public final class AllAboveIt {
                 return was == 2;
             }
             int moves = pile.moves(state, heir);
-            int many = Integer.bitCount(moves);
-            boolean free = many == 0;
-            for (int k = 0; k < many && !free; k++) {
-                free = !escapes(pile.behind(state, Pile.lowest(moves)), other, heir, depth + 1);
-                moves &= moves - 1;
+            int steps = pile.steps();
+            boolean free = moves == 0;
+            for (int step = 0; step < steps && !free; step++) {
+                if ((moves >> step & 1) != 0) {
+                    free = !escapes(pile.behind(state, step), other, heir, depth + 1);
+                }
             }
             known.set(state, known.at(state) | (free ? 2L : 1L) << shift);
             return free;
