@@ -211,7 +211,7 @@ public final class AllAboveIt {
     }
 
     public long lines(int n) {
-        return n < 0 || n > 5 ? NONE : winners.games(game.state(), game.turn(), n);
+        return winners.games(game.state(), game.turn(), n);
     }
 
     public int forced() {
@@ -717,6 +717,7 @@ public final class AllAboveIt {
         private static final int MOST_STEPS = MOST_THINGS + MOST_BACK;
         /** WORTHS are added up ahead of time for the lower and the upper half of the THINGS. */
         private static final int HALF = MOST_THINGS / 2;
+        private static final int HALF_MASK = (1 << HALF) - 1;
 
         private final int[] worth = new int[MOST_THINGS];
         private final int[] heirs = new int[MOST_THINGS];
@@ -814,10 +815,9 @@ public final class AllAboveIt {
             }
         }
 
+        /** Bits of no THING count nothing: none of them was ever told a WORTH. */
         int worthOf(int some) {
-            int all = some & full();
-            int mask = (1 << HALF) - 1;
-            return lowerSums[all & mask] + upperSums[all >> HALF & mask];
+            return lowerSums[some & HALF_MASK] + upperSums[some >> HALF & HALF_MASK];
         }
 
         /** Another one whenever THINGS were told. */
@@ -1111,6 +1111,7 @@ public final class AllAboveIt {
     private static final class Winners {
         private static final int LOST = 1;
         private static final int WON = 2;
+        private static final int LONGEST_LINES = 5;
 
         private final Pile pile;
         // two bits for each HEIR and END: LOST, WON; from bit 8 on five for each: 1 + how soon
@@ -1165,43 +1166,43 @@ public final class AllAboveIt {
             return soonestFrom(state, heir, end, 0);
         }
 
+        /** A game's length tells who wins: whoever is on turn behind its last MOVE has none. */
+        private static boolean wonIn(int length, int end) {
+            return (length & 1) != end;
+        }
+
         private int soonestFrom(int state, int heir, int end, int depth) {
             int shift = 8 + 10 * heir + 5 * end;
             int was = (int) (known.at(state) >> shift) & 31;
             if (was != 0 || depth > DEEPEST) {
                 return was - 1;
             }
-            boolean wins = victoryFrom(state, heir, end, depth);
             int moves = pile.moves(state, heir);
             int steps = pile.steps();
-            int soonest = moves == 0 ? 0 : NONE;
+            int won = NONE;
+            int lost = moves == 0 ? 0 : NONE;
             for (int step = 0; step < steps; step++) {
-                if ((moves >> step & 1) == 0) {
-                    continue;
-                }
-                int behind = pile.behind(state, step);
-                if (wins && victoryFrom(behind, 1 - heir, end, depth + 1)) {
-                    continue;
-                }
-                int length = 1 + soonestFrom(behind, 1 - heir, end, depth + 1);
-                if (soonest == NONE || (wins ? length < soonest : length > soonest)) {
-                    soonest = length;
+                if ((moves >> step & 1) != 0) {
+                    int length = 1 + soonestFrom(pile.behind(state, step), 1 - heir, end, depth + 1);
+                    if (!wonIn(length, end)) {
+                        lost = Math.max(lost, length);
+                    } else if (won == NONE || length < won) {
+                        won = length;
+                    }
                 }
             }
-            known.set(state, known.at(state) | (long) (soonest + 1 & 31) << shift);
+            int soonest = won == NONE ? lost : won;
+            long winner = (wonIn(soonest, end) ? (long) WON : LOST) << 4 * heir + 2 * end;
+            known.set(state, known.at(state) | winner | (long) (soonest + 1 & 31) << shift);
             return soonest;
         }
 
         int firstSoonest(int state, int heir, int end) {
             int soonest = soonest(state, heir, end);
-            boolean wins = victory(state, heir, end);
             int moves = pile.moves(state, heir);
             for (int step = 0; step < pile.steps(); step++) {
-                if ((moves >> step & 1) == 0) {
-                    continue;
-                }
-                int behind = pile.behind(state, step);
-                if (victory(behind, 1 - heir, end) != wins && 1 + soonest(behind, 1 - heir, end) == soonest) {
+                if ((moves >> step & 1) != 0
+                        && 1 + soonest(pile.behind(state, step), 1 - heir, end) == soonest) {
                     return step;
                 }
             }
@@ -1246,6 +1247,10 @@ public final class AllAboveIt {
 
         /** How many games of just n MOVES there are. */
         long games(int state, int heir, int n) {
+            return n < 0 || n > LONGEST_LINES ? NONE : gamesFrom(state, heir, n);
+        }
+
+        private long gamesFrom(int state, int heir, int n) {
             if (n <= 0) {
                 return 1;
             }
@@ -1257,7 +1262,7 @@ public final class AllAboveIt {
             long sum = 0;
             for (int step = 0; step < steps; step++) {
                 if ((moves >> step & 1) != 0) {
-                    sum += games(pile.behind(state, step), 1 - heir, n - 1);
+                    sum += gamesFrom(pile.behind(state, step), 1 - heir, n - 1);
                 }
             }
             return sum;
@@ -1492,13 +1497,15 @@ public final class AllAboveIt {
             return moreFrom(state, heir, 0);
         }
 
+        /** What is known of a STATE by this sheet. */
         private long cell(int state) {
             long cell = known.at(state);
             return cell >>> 32 == sheet ? cell : sheet << 32;
         }
 
         private int moreFrom(int state, int heir, int depth) {
-            int was = (int) (cell(state) >> 16 * heir) & 0xFFFF;
+            long cell = known.at(state);
+            int was = cell >>> 32 == sheet ? (int) (cell >> 16 * heir) & 0xFFFF : 0;
             if (was != 0 || depth > DEEPEST) {
                 return was - ZERO;
             }
@@ -1507,23 +1514,22 @@ public final class AllAboveIt {
             int most = moves == 0 ? 0 : -ZERO;
             for (int step = 0; step < steps; step++) {
                 if ((moves >> step & 1) != 0) {
-                    most = Math.max(most, moreBy(state, heir, step, depth));
+                    int behind = pile.behind(state, step);
+                    int more = pile.worthOf(state & ~behind) - moreFrom(behind, 1 - heir, depth + 1);
+                    most = more > most ? more : most;
                 }
             }
             known.set(state, cell(state) | (long) (most + ZERO) << 16 * heir);
             return most;
         }
 
-        private int moreBy(int state, int heir, int step, int depth) {
-            int behind = pile.behind(state, step);
-            return pile.worthOf(state & ~behind) - moreFrom(behind, 1 - heir, depth + 1);
-        }
-
         int firstBest(int state, int heir) {
             int most = more(state, heir);
             int moves = pile.moves(state, heir);
             for (int step = 0; step < pile.steps(); step++) {
-                if ((moves >> step & 1) != 0 && moreBy(state, heir, step, 0) == most) {
+                int behind = pile.behind(state, step);
+                if ((moves >> step & 1) != 0
+                        && pile.worthOf(state & ~behind) - more(behind, 1 - heir) == most) {
                     return step;
                 }
             }
