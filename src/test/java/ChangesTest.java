@@ -6,6 +6,7 @@ public final class ChangesTest {
         one();
         two();
         tooMuch();
+        byChance();
         D.close("ChangesTest");
     }
 
@@ -64,5 +65,22 @@ public final class ChangesTest {
         x.move(1);
         D.due("40 BACK, though gone", x.change(), -3);
         D.due("41 BACK, though gone", x.single(), -3);
+    }
+
+    /** All that change() and single() look at, by the slow way. */
+    private static void byChance() {
+        java.util.Random random = new java.util.Random(40);
+        for (int k = 0; k < 300; k++) {
+            String text = Oracle.someText(random, 1 + random.nextInt(k % 20 == 0 ? 8 : 5), 2 + k % 4);
+            AllAboveIt x = Due.piled(text);
+            Oracle o = Oracle.piled(text);
+            x.ends(k & 1);
+            o.ends(k & 1);
+            o.row.clear();
+            D.due("40 change() of " + text, x.change(), o.change());
+            D.due("40 change() of " + text, Due.told(x), o.row.toString());
+            D.due("41 single() of " + text, x.single(), o.single());
+            D.due("41 single() of " + text, Due.told(x), o.row.toString());
+        }
     }
 }

@@ -4,15 +4,30 @@ import java.util.NoSuchElementException;
 final class Due {
     private int wrong = 0;
     private int asked = 0;
+    private String sentence = "";
+
+    /** What is asked from now on is asked for a sentence of the document, which is printed with it. */
+    void under(String words) {
+        sentence = words;
+    }
+
+    int asked() {
+        return asked;
+    }
+
+    private void complain(String call, String got, String want) {
+        wrong++;
+        if (wrong <= 50) {
+            System.out.println((sentence.isEmpty() ? "" : "[" + sentence + "] ") + call + " answered " + got
+                + ", due is " + want);
+        }
+    }
 
     /** Prints an answer that is not the one that is due. */
     void due(String call, long got, long want) {
         asked++;
         if (got != want) {
-            wrong++;
-            if (wrong <= 50) {
-                System.out.println(call + " answered " + got + ", due is " + want);
-            }
+            complain(call, String.valueOf(got), String.valueOf(want));
         }
     }
 
@@ -23,10 +38,7 @@ final class Due {
     void due(String call, String got, String want) {
         asked++;
         if (!got.equals(want)) {
-            wrong++;
-            if (wrong <= 50) {
-                System.out.println(call + " answered " + got + ", due is " + want);
-            }
+            complain(call, got, want);
         }
     }
 

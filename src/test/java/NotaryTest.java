@@ -19,6 +19,7 @@ public final class NotaryTest {
         D.due("39 no MOVE by END 0", x.notary(1, 4), x, 0, 0, 1);
         bothHaveOne();
         tooMuch();
+        byChance();
         D.close("NotaryTest");
     }
 
@@ -41,11 +42,7 @@ public final class NotaryTest {
         AllAboveIt y = Due.piled("1:3;1:3;1:3;1:3;1:3;1:3");
         D.due("39 six that are the same", y.notary(1, 7), y, 0, 1, 1);
         AllAboveIt z = Due.piled("1:3;1:3^0;1:3;1:3^2;1:3;1:3^4");
-        Oracle o = new Oracle();
-        for (char sign : "1:3;1:3^0;1:3;1:3^2;1:3;1:3^4".toCharArray()) {
-            o.text.append(sign);
-        }
-        o.piles();
+        Oracle o = Oracle.piled("1:3;1:3^0;1:3;1:3^2;1:3;1:3^4");
         for (int c = 0; c <= 10; c++) {
             o.notary(0, c);
             D.due("39 three towers of two, " + c, z.notary(0, c), z, 0, o.row(0), o.row(1));
@@ -64,5 +61,20 @@ public final class NotaryTest {
         D.due("39 BACK, c 11", x.notary(0, 11), -1);
         x.move(1);
         D.due("39 BACK, though gone", x.notary(0, 5), -3);
+    }
+
+    /** Six THINGS, so that fractions get as fine as can be. */
+    private static void byChance() {
+        java.util.Random random = new java.util.Random(39);
+        for (int k = 0; k < 150; k++) {
+            String text = Oracle.someText(random, 6, 2 + k % 9);
+            AllAboveIt x = Due.piled(text);
+            Oracle o = Oracle.piled(text);
+            x.ends(k & 1);
+            o.ends(k & 1);
+            int c = 1 + random.nextInt(10);
+            o.notary(k / 2 & 1, c);
+            D.due("39 notary(" + (k / 2 & 1) + ", " + c + ") of " + text, x.notary(k / 2 & 1, c), x, 0, o.row(0), o.row(1));
+        }
     }
 }

@@ -66,6 +66,33 @@ final class Oracle {
     final Kept[] kept = new Kept[3];
     List<Long> row = new ArrayList<>();
 
+    /** A new one with the THINGS of a text. */
+    static Oracle piled(String all) {
+        Oracle o = new Oracle();
+        o.text.append(all);
+        if (o.piles() < 0) {
+            throw new IllegalStateException("the test's own text is wrong: " + all);
+        }
+        return o;
+    }
+
+    /** THINGS by chance: on none, or on one or two ahead; of HEIRS 0, 1 or both most of the time. */
+    static String someText(java.util.Random random, int things, int wide) {
+        StringBuilder text = new StringBuilder();
+        for (int i = 0; i < things; i++) {
+            int heirs = random.nextInt(6) == 0 ? 4 + random.nextInt(4) : 1 + random.nextInt(3);
+            text.append(i == 0 ? "" : ";").append(random.nextInt(10)).append(':').append(heirs);
+            if (i > 0 && random.nextInt(wide) == 0) {
+                int on = random.nextInt(i);
+                text.append('^').append(on);
+                if (on + 1 < i && random.nextInt(3) == 0) {
+                    text.append(',').append(on + 1);
+                }
+            }
+        }
+        return text.toString();
+    }
+
     private void tell(long... numbers) {
         row = new ArrayList<>();
         for (long n : numbers) {

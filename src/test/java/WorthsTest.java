@@ -8,6 +8,7 @@ public final class WorthsTest {
         greedy();
         limits();
         mean();
+        means();
         D.close("WorthsTest");
     }
 
@@ -114,5 +115,17 @@ public final class WorthsTest {
         D.due("34 BACK, though gone", x.mean(), -3);
         x.sheet(2, 2, 1, 1);
         D.due("34 no THINGS", new AllAboveIt().mean(), 0);
+    }
+
+    /** Six THINGS, so that fractions get as fine as can be. */
+    private static void means() {
+        java.util.Random random = new java.util.Random(34);
+        for (int k = 0; k < 150; k++) {
+            String text = Oracle.someText(random, 6, 2 + k % 9);
+            AllAboveIt x = Due.piled(text);
+            Oracle o = Oracle.piled(text);
+            o.mean();
+            D.due("34 mean() of " + text, x.mean(), x, 0, o.row(0), o.row(1));
+        }
     }
 }
