@@ -10,7 +10,8 @@ import java.util.regex.Pattern;
 final class Edges {
     /** What tells a clause of the document that names an edge. */
     private static final Pattern EDGE = Pattern.compile("NONE|Refused|Exception|-[123]|\\bnone\\b|\\bnothing\\b"
-        + "|\\bnobody\\b|\\bNo\\b|\\bat most\\b|\\bmore than\\b|\\bbelow\\b|\\babove \\d|\\btoo\\b|\\bempty\\b|\\bnot\\b"
+        + "|\\bnobody\\b|\\bNo\\b|\\bat most\\b|\\bmore than\\b|\\bbelow\\b|\\babove \\d|\\btoo\\b"
+        + "|\\bempty\\b|\\bnot\\b"
         + "|\\bsigns? alone\\b|\\bwithout\\b|\\belse\\b|\\bothers\\b|\\banother\\b|\\d \\.\\. |\\b0, if\\b|\\b1, if\\b"
         + "|\\bNothing\\b|\\bfirst\\b");
 

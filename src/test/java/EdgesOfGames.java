@@ -72,7 +72,8 @@ final class EdgesOfGames {
     }
 
     private void putBackAt() {
-        e.says(0, "one of BACK that is not THERE and was not put back yet, and that LIES ON THINGS all of which are THERE");
+        e.says(0, "one of BACK that is not THERE and was not put back yet, "
+            + "and that LIES ON THINGS all of which are THERE");
         AllAboveIt x = Due.piled("1:3;1:3;1:3^0,1r");
         d.due("it is THERE", x.move(16), -2);
         x.move(2);
@@ -232,8 +233,9 @@ final class EdgesOfGames {
             // bits of MOVES that are not told, and the two highest of each number, do not count
             int wordsOf = n <= 5 ? n : 5;
             int above = wordsOf == 5 ? 3 << 30 : -1 << 6 * wordsOf;
-            d.due("n " + n + " and bits behind", x.judge(n, a | above, n <= 5 ? -1 : b | 3 << 30, n <= 10 ? -1 : c | 3 << 30),
-                x, -2, took[0], took[1]);
+            int second = n <= 5 ? -1 : b | 3 << 30;
+            int third = n <= 10 ? -1 : c | 3 << 30;
+            d.due("n " + n + " and bits behind", x.judge(n, a | above, second, third), x, -2, took[0], took[1]);
         }
     }
 

@@ -207,8 +207,8 @@ final class EdgesOfHeaps {
     // ---- promise 28
 
     private void alikeNot() {
-        e.says(28, "1, if THINGS of the one can be paired with those of the other so that what LIES ON what is the same "
-            + "(HEIRS, WORTHS do not count); 0.");
+        e.says(28, "1, if THINGS of the one can be paired with those of the other so that what LIES ON what is "
+            + "the same (HEIRS, WORTHS do not count); 0.");
         AllAboveIt x = Due.piled("1:1;9:2;5:4^0;6:7^1;1:3;1:3");
         d.due("towers of two", x.alike(0, 1), 1);
         d.due("one and one", x.alike(4, 5), 1);
@@ -277,7 +277,8 @@ final class EdgesOfHeaps {
     }
 
     private void wallFirst() {
-        e.says(29, "one takes a stone and all that are not left of it and not in a row ahead of it; who takes the last loses");
+        e.says(29, "one takes a stone and all that are not left of it and not in a row ahead of it; "
+            + "who takes the last loses");
         AllAboveIt x = new AllAboveIt();
         // by 1, 1 a square becomes a corner with equal arms; were stones ahead taken, too, it would be something else
         d.due("a square of three", x.wall(3, 3, 3, 0), x, 1, 1, 1);
@@ -300,8 +301,9 @@ final class EdgesOfHeaps {
         d.due("7, 0, 0, 0", x.wall(7, 0, 0, 0) >= 0, true);
         e.says(29, "NONE: others.");
         x.wall(2, 0, 0, 0);
-        int[][] others = {{8, 0, 0, 0}, {8, 8, 8, 8}, {-1, 0, 0, 0}, {0, -1, 0, 0}, {1, 1, -1, 0}, {1, 1, 1, -1}, {0, 1, 0, 0},
-            {2, 3, 1, 1}, {2, 1, 2, 1}, {2, 2, 1, 2}, {MIN, MIN, MIN, MIN}, {MAX, 0, 0, 0}, {7, 8, 0, 0}, {7, 7, 7, 8}};
+        int[][] others = {{8, 0, 0, 0}, {8, 8, 8, 8}, {-1, 0, 0, 0}, {0, -1, 0, 0}, {1, 1, -1, 0}, {1, 1, 1, -1},
+            {0, 1, 0, 0}, {2, 3, 1, 1}, {2, 1, 2, 1}, {2, 2, 1, 2}, {MIN, MIN, MIN, MIN}, {MAX, 0, 0, 0}, {7, 8, 0, 0},
+            {7, 7, 7, 8}};
         for (int[] r : others) {
             d.due("wall(" + r[0] + ", " + r[1] + ", " + r[2] + ", " + r[3] + ")", x.wall(r[0], r[1], r[2], r[3]), x,
                 -1, 0, 1);

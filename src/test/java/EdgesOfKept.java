@@ -151,8 +151,8 @@ final class EdgesOfKept {
         for (int what : others) {
             d.due("count(" + what + ")", x.count(what), -1);
         }
-        e.says(44, "What 0: THINGS, 1: those THERE (bits), 2: MOVES made, 3: who is on turn, 4: those of BACK put back (bits), "
-            + "5: END, 6: numbers of the ROW, 7: signs of THE TEXT.");
+        e.says(44, "What 0: THINGS, 1: those THERE (bits), 2: MOVES made, 3: who is on turn, "
+            + "4: those of BACK put back (bits), 5: END, 6: numbers of the ROW, 7: signs of THE TEXT.");
         x.move(0);
         x.move(14);
         x.move(1);

@@ -163,7 +163,8 @@ final class EdgesOfPiles {
     /** Behind each beginning all 256 signs: those that may stand there, and no other. */
     private void signsThatCannotStand() {
         e.says(4, "-1 - p: the sign at p can't stand there");
-        String[] beginnings = {"", "1", "1:", "1:3", "1:3;", "1:3;1:3^", "1:3;1:3^0", "1:3;1:3^0,", "1:3r", "1:3;1:3^0r"};
+        String[] beginnings = {"", "1", "1:", "1:3", "1:3;", "1:3;1:3^", "1:3;1:3^0", "1:3;1:3^0,", "1:3r",
+            "1:3;1:3^0r"};
         String[] may = {"0123456789", ":", "1234567", "^r;", "0123456789", "0", "0,r;", "", ";", ";"};
         for (int k = 0; k < beginnings.length; k++) {
             int p = beginnings[k].length();

@@ -125,7 +125,8 @@ final class EdgesOfWorths {
     }
 
     private void greedyNothing() {
-        e.says(32, "till whoever is on turn can take nothing: how many MOVES; the ROW: of whoever is on turn now, of the other one");
+        e.says(32, "till whoever is on turn can take nothing: how many MOVES; "
+            + "the ROW: of whoever is on turn now, of the other one");
         AllAboveIt x = new AllAboveIt();
         d.due("no THINGS", x.greedy(), x, 0, 0, 0);
         x = Due.piled("9:2");
@@ -198,6 +199,21 @@ final class EdgesOfWorths {
         d.due("-1 by 3", x.mean(), x, 0, -1, 3);
         x = Due.piled("1:3;1:3^0");
         d.due("notary(0, 4): 8 by 10", x.notary(0, 4), x, 0, 4, 5);
+        // of many piles of six by chance those that go lowest, by 2, by 3, by 5 (the answers are Oracle's)
+        x = Due.piled("1:3;6:3^0;6:3^0;8:3;3:1;1:3^1");
+        d.due("a mean of 128ths", x.mean(), x, 0, 1509, 640);
+        x = Due.piled("7:3;9:5;6:3^1;3:3;0:1;7:1^3");
+        d.due("a mean of 27ths", x.mean(), x, 0, 1073, 216);
+        x = Due.piled("1:1;5:3;3:3;1:3^1,2;0:2^1,2;2:3");
+        d.due("a mean of 25ths", x.mean(), x, 0, 449, 600);
+        x = Due.piled("6:3;8:5^0;4:3^0;5:3^1;6:1^3;7:3^2");
+        d.due("a chance of 4096ths", x.notary(0, 9), x, 0, 1267021, 2560000);
+        x = Due.piled("8:3;4:1;8:3^1;7:3;6:5;3:3^4");
+        x.ends(1);
+        d.due("a chance of 27ths", x.notary(0, 7), x, 0, 8071553, 43200000);
+        x = Due.piled("0:3;7:3^0;9:3^0;1:7^2;5:3^1;5:2");
+        x.ends(1);
+        d.due("a chance of 78125ths", x.notary(0, 9), x, 0, 8307127, 10000000);
     }
 
     private void meanTooMany() {

@@ -140,7 +140,8 @@ public final class FaceTest {
         }
         int from = 0;
         for (String line : code.split("\n")) {
-            if (line.startsWith("    ") && line.endsWith(") {") && !line.contains(" if (") && !line.contains(" for (")) {
+            boolean inside = line.contains(" if (") || line.contains(" for (");
+            if (line.startsWith("    ") && line.endsWith(") {") && !inside) {
                 from = 0;
             }
             from++;

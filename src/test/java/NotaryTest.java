@@ -65,6 +65,17 @@ public final class NotaryTest {
 
     /** Six THINGS, so that fractions get as fine as can be. */
     private static void byChance() {
+        for (int heirs = 0; heirs < 729; heirs++) {
+            String text = Oracle.onNone(new int[6], heirs);
+            if (text != null) {
+                AllAboveIt x = Due.piled(text);
+                Oracle o = Oracle.piled(text);
+                x.ends(1);
+                o.ends(1);
+                o.notary(0, 7);
+                D.due("39 notary(0, 7) of " + text, x.notary(0, 7), x, 0, o.row(0), o.row(1));
+            }
+        }
         java.util.Random random = new java.util.Random(39);
         for (int k = 0; k < 150; k++) {
             String text = Oracle.someText(random, 6, 2 + k % 9);
@@ -73,8 +84,9 @@ public final class NotaryTest {
             x.ends(k & 1);
             o.ends(k & 1);
             int c = 1 + random.nextInt(10);
-            o.notary(k / 2 & 1, c);
-            D.due("39 notary(" + (k / 2 & 1) + ", " + c + ") of " + text, x.notary(k / 2 & 1, c), x, 0, o.row(0), o.row(1));
+            int heir = k / 2 & 1;
+            o.notary(heir, c);
+            D.due("39 notary(" + heir + ", " + c + ") of " + text, x.notary(heir, c), x, 0, o.row(0), o.row(1));
         }
     }
 }

@@ -62,6 +62,8 @@ final class Oracle {
     List<State> history = new ArrayList<>();
     List<Integer> moves = new ArrayList<>();
     int end = 0;
+    /** MOVES from this number on put back; a pile with THINGS laid on it may have more than fourteen. */
+    int puttingBack = 14;
     final int[] first = {1, 2, 0};
     final Kept[] kept = new Kept[3];
     List<Long> row = new ArrayList<>();
@@ -74,6 +76,22 @@ final class Oracle {
             throw new IllegalStateException("the test's own text is wrong: " + all);
         }
         return o;
+    }
+
+    /** THINGS on none, of HEIRS 1, 2, 3 as the digits of a number to the base of 3 say; null, if these do not rise. */
+    static String onNone(int[] worth, int heirs) {
+        StringBuilder text = new StringBuilder();
+        int last = 0;
+        int rest = heirs;
+        for (int i = 0; i < worth.length; i++) {
+            if (rest % 3 < last) {
+                return null;
+            }
+            last = rest % 3;
+            text.append(i == 0 ? "" : ";").append(worth[i]).append(':').append(1 + last);
+            rest /= 3;
+        }
+        return text.toString();
     }
 
     /** THINGS by chance: on none, or on one or two ahead; of HEIRS 0, 1 or both most of the time. */
@@ -325,7 +343,7 @@ final class Oracle {
                     m.add(i);
                 }
             } else if (t.back && !s.put.contains(i) && s.there.containsAll(t.on)) {
-                m.add(14 + i);
+                m.add(puttingBack + i);
             }
         }
         return m;
@@ -334,12 +352,12 @@ final class Oracle {
     State after(State s, int move) {
         TreeSet<Integer> there = new TreeSet<>(s.there);
         TreeSet<Integer> put = new TreeSet<>(s.put);
-        if (move < 14) {
+        if (move < puttingBack) {
             there.remove(move);
             there.removeAll(allAbove(move));
         } else {
-            there.add(move - 14);
-            put.add(move - 14);
+            there.add(move - puttingBack);
+            put.add(move - puttingBack);
         }
         return new State(there, put);
     }
@@ -1025,6 +1043,7 @@ final class Oracle {
         o.worth = new ArrayList<>(worth);
         o.state = state;
         o.end = end;
+        o.puttingBack = 16;
         if (code < 14) {
             o.state = o.after(state, code);
             return o;

@@ -13,6 +13,8 @@ public final class OracleTest {
     private final AllAboveIt x = new AllAboveIt();
     private final Oracle o = new Oracle();
     private final StringBuilder run = new StringBuilder();
+    /** Up to fourteen THINGS, but so few side by side that Oracle is soon done with them. */
+    private boolean tall = false;
 
     private OracleTest(long seed) {
         random = new Random(seed);
@@ -29,19 +31,20 @@ public final class OracleTest {
     }
 
     private void play() {
-        int most = 2 + random.nextInt(random.nextInt(6) == 0 ? 9 : 6);
+        tall = random.nextInt(5) == 0;
+        int most = tall ? 10 + random.nextInt(5) : 2 + random.nextInt(random.nextInt(6) == 0 ? 9 : 6);
         boolean backs = random.nextInt(3) == 0;
         int share = random.nextInt(4);
         for (int k = 0; k < 250; k++) {
             if (o.things.size() < most && random.nextInt(o.things.isEmpty() ? 3 : 25) == 0) {
-                write(pile(1 + random.nextInt(most - o.things.size()), backs, share));
+                write(pile(1 + random.nextInt(Math.min(6, most - o.things.size())), backs, share));
                 call(2, 0, 0, 0, 0);
                 o.forget();
             }
             if (random.nextInt(40) == 0) {
                 write(spoilt(pile(1 + random.nextInt(3), backs, share)));
                 int before = o.things.size();
-                if (before < 9) {
+                if (before < 9 || tall) {
                     call(2, 0, 0, 0, 0);
                     o.forget();
                 }
@@ -124,7 +127,7 @@ public final class OracleTest {
             text.append(share == 0 ? 3 : share == 1 ? 7 : 1 + random.nextInt(7));
             char sign = '^';
             for (int i = 0; i < me; i++) {
-                if (random.nextInt(3 + share) == 0) {
+                if (tall ? i >= me - 3 && random.nextInt(i == me - 1 ? 3 : 2) != 0 : random.nextInt(3 + share) == 0) {
                     text.append(sign).append(random.nextInt(5) == 0 && i < 10 ? "0" : "").append(i);
                     sign = ',';
                 }

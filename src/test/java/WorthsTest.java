@@ -119,6 +119,16 @@ public final class WorthsTest {
 
     /** Six THINGS, so that fractions get as fine as can be. */
     private static void means() {
+        int[] worth = {9, 7, 4, 2, 1, 8};
+        for (int heirs = 0; heirs < 729; heirs++) {
+            String text = Oracle.onNone(worth, heirs);
+            if (text != null) {
+                AllAboveIt x = Due.piled(text);
+                Oracle o = Oracle.piled(text);
+                o.mean();
+                D.due("34 mean() of " + text, x.mean(), x, 0, o.row(0), o.row(1));
+            }
+        }
         java.util.Random random = new java.util.Random(34);
         for (int k = 0; k < 150; k++) {
             String text = Oracle.someText(random, 6, 2 + k % 9);
