@@ -62,6 +62,15 @@ final class EdgesOfChanges {
         d.due("it wins by END 1", x.change(), x, 1, 0);
         x.move(0);
         d.due("HEIR 1 loses by END 1", x.change(), x, 1, 1);
+        // the same is THERE, another one on turn
+        x = Due.piled("1:3;1:3^0;1:1");
+        x.move(0);
+        d.due("HEIR 1 loses", x.single(), x, 0, 0, 0, 0);
+        x.begin();
+        x.move(1);
+        x.move(0);
+        d.due("HEIR 0 wins", x.single(), x, 1, 4, 0, 0);
+        d.due("HEIR 0 wins", x.change(), x, 1, 2);
     }
 
     private void leastRow() {

@@ -117,6 +117,13 @@ final class EdgesOfWins {
         AllAboveIt w = Due.piled("1:1;1:1;1:2^1");
         // by 0 it wins in three, by 1 at once
         d.due("not the first that wins, but the soonest", w.soon(), w, 1, 1);
+        w = Due.piled("1:1;1:2^0;1:1");
+        // by 0 it wins at once, by 2 in three
+        d.due("not the last that wins either", w.soon(), w, 1, 0);
+        w = Due.piled("1:3;1:3;1:1");
+        w.move(0);
+        w.move(1);
+        d.due("what is gone is no MOVE", w.soon(), w, 1, 2);
         w = Due.piled("1:3;1:2;1:2;1:1^2");
         w.move(0);
         d.due("so HEIR 1", w.soon(), w, 1, 2);

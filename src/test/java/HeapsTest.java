@@ -10,6 +10,7 @@ public final class HeapsTest {
         making();
         joining();
         alike();
+        alikeByChance();
         walls();
         D.close("HeapsTest");
     }
@@ -179,5 +180,70 @@ public final class HeapsTest {
         D.due("29 too long", x.wall(8, 0, 0, 0), x, -1, 1, 1);
         D.due("29 below 0", x.wall(1, 1, 1, -1), x, -1, 1, 1);
         D.due("29 below 0", x.wall(-1, -1, -1, -1), x, -1, 1, 1);
+    }
+
+    /** Two HEAPS of up to six, the second one of the same shape, or with one more LIES ON, or quite another. */
+    private static void alikeByChance() {
+        java.util.Random random = new java.util.Random(28);
+        for (int k = 0; k < 200; k++) {
+            int many = 2 + random.nextInt(5);
+            int[] under = heapByChance(random, many);
+            int[] other = k % 3 == 2 ? heapByChance(random, many) : reordered(random, under);
+            if (k % 3 == 1) {
+                int i = 1 + random.nextInt(many - 1);
+                other[i] |= 1 << random.nextInt(i);
+            }
+            AllAboveIt x = Due.piled(lines(under, 0));
+            Oracle o = Oracle.piled(lines(under, 0));
+            Due.piles(x, lines(other, many));
+            o.text.append(lines(other, many));
+            o.piles();
+            D.due("28 alike of " + lines(under, 0) + " and " + lines(other, many), x.alike(0, many), o.alike(0, many));
+            D.due("28 alike the other way", x.alike(many, 0), o.alike(0, many));
+        }
+    }
+
+    /** For each of some THINGS what it LIES ON: one or two ahead. */
+    private static int[] heapByChance(java.util.Random random, int many) {
+        int[] under = new int[many];
+        for (int i = 1; i < many; i++) {
+            under[i] = 1 << random.nextInt(i) | (random.nextInt(3) == 0 ? 1 << random.nextInt(i) : 0);
+        }
+        return under;
+    }
+
+    /** The same HEAP, its THINGS told in another order that has what one LIES ON ahead of it. */
+    private static int[] reordered(java.util.Random random, int[] under) {
+        int many = under.length;
+        int[] told = new int[many];
+        int[] number = new int[many];
+        int done = 0;
+        for (int k = 0; k < many; k++) {
+            int i = random.nextInt(many);
+            while ((done >> i & 1) != 0 || (under[i] & ~done) != 0) {
+                i = (i + 1) % many;
+            }
+            number[i] = k;
+            done |= 1 << i;
+            for (int j = 0; j < many; j++) {
+                told[k] |= (under[i] >> j & 1) << number[j];
+            }
+        }
+        return told;
+    }
+
+    private static String lines(int[] under, int ahead) {
+        StringBuilder text = new StringBuilder();
+        for (int i = 0; i < under.length; i++) {
+            text.append(i == 0 ? "1:3" : ";1:3");
+            char sign = '^';
+            for (int j = 0; j < i; j++) {
+                if ((under[i] >> j & 1) != 0) {
+                    text.append(sign).append(ahead + j);
+                    sign = ',';
+                }
+            }
+        }
+        return text.toString();
     }
 }

@@ -7,6 +7,7 @@ public final class ParrotTest {
         parrot();
         parrots();
         out();
+        allWays();
         D.close("ParrotTest");
     }
 
@@ -80,5 +81,27 @@ public final class ParrotTest {
         D.due("38 2 ends it", v.parrot(0), 1);
         D.due("38 without 2", v.out(1), 2);
         D.due("38 nobody keeps it", new AllAboveIt().out(1), -3);
+    }
+
+    /** All eight ways to like, one behind the other on the same object, with what two HEIRS alone do between. */
+    private static void allWays() {
+        java.util.Random random = new java.util.Random(36);
+        for (int k = 0; k < 60; k++) {
+            String text = Oracle.someText(random, 2 + random.nextInt(5), 2 + k % 4).replace(":3", ":7");
+            AllAboveIt x = Due.piled(text);
+            Oracle o = Oracle.piled(text);
+            for (int way = 0; way < 24; way++) {
+                for (int heir = 0; heir < 3; heir++) {
+                    int whom = (heir + 1 + (way >> heir & 1)) % 3;
+                    x.likes(heir, whom);
+                    o.likes(heir, whom);
+                }
+                o.parrots();
+                D.due("37 parrots() of " + text, x.parrots(), x, o.parrots(), o.row(0), o.row(1), o.row(2));
+                for (int heir = 0; heir < 3; heir++) {
+                    D.due("38 out(" + heir + ") of " + text, x.out(heir), o.out(heir));
+                }
+            }
+        }
     }
 }
